@@ -130,6 +130,15 @@ public final class PromiseTest {
         y.setFact(9, true);
         is("extensionCount() after a fact more", y.extensionCount(), 1);
         is("preferredCount() after a fact more", y.preferredCount(), 1);
+        DefaultReasoner z = tweety();
+        z.prefer(0, 1);
+        is("common(true)", z.common(true), set(0, 1, 2));
+        z.setFact(1, true);
+        is("preferredCount() after a fact that agrees", z.preferredCount(), 1);
+        z.setFact(1, false);
+        z.setFact(9, true);
+        is("common(true) after a fact that does not", z.common(true), set(0, 2, 9));
+        is("share(9)", z.share(9), 1.0);
     }
 
     private static void addRule() {
@@ -223,6 +232,16 @@ public final class PromiseTest {
         is("prefer(0, 1), which a chain says", z.prefer(0, 1), true);
         z.dropDefault();
         is("isBefore(0, 1) by its own preference", z.isBefore(0, 1), true);
+
+        DefaultReasoner v = plain(6);
+        for (int i = 0; i < 5; i++) {
+            v.prefer(i, 5);
+        }
+        v.dropDefault();
+        v.addDefault(0, 0, 5);
+        for (int i = 0; i < 5; i++) {
+            is("isBefore(" + i + ", 5) of a new default", v.isBefore(i, 5), false);
+        }
 
         DefaultReasoner w = tweety();
         w.walk(1);
@@ -384,6 +403,17 @@ public final class PromiseTest {
         is("generatorsOf a chain", y.generatorsOf(0), 7);
         is("generatorsOf a set that closes the chain's start", y.generatorsOf(set(12)), 0);
         is("generatorsOf takes no prerequisite from the set", y.generatorsOf(set(6)), 7);
+        // The chain stands against the numbers of the defaults, so that each round finds one.
+        DefaultReasoner z = new DefaultReasoner();
+        for (int i = 5; i >= 0; i--) {
+            z.addDefault(set(i), set(7), i + 1);
+        }
+        is("generatorsOf a chain without its start", z.generatorsOf(0), 0);
+        z.setFact(0, true);
+        is("generatorsOf the longest chain", z.generatorsOf(0), 63);
+        z.setFact(0, false);
+        z.setFact(3, true);
+        is("generatorsOf the chain's end", z.generatorsOf(0), 7);
         for (int bad : NOT_A_SET) {
             refused(y, "generatorsOf(" + bad + ")", ARGUMENT, () -> y.generatorsOf(bad));
         }
@@ -472,6 +502,10 @@ public final class PromiseTest {
         x.addDefault(0, set(5), 5);
         is("isPreferred(0) after a default more", x.isPreferred(0), false);
         is("isPreferred(1) after a default more", x.isPreferred(1), true);
+        DefaultReasoner y = plain(6);
+        is("isPreferred(0) after six steps", y.isPreferred(0), true);
+        y.prefer(5, 0);
+        is("isPreferred(0) after six steps and prefer", y.isPreferred(0), true);
         DefaultReasoner none = hopeless();
         refused(none, "isPreferred(0) of none", INDEX, () -> none.isPreferred(0));
     }
@@ -505,6 +539,10 @@ public final class PromiseTest {
         for (int bad : NOT_A_LITERAL) {
             refused(x, "supports(" + bad + ")", INDEX, () -> x.supports(bad));
         }
+        is("supports(9) of both", x.supports(9), 1);
+        x.dropDefault();
+        is("supports(9) after its default is gone", x.supports(9), 0);
+        is("supports(0) of one that is left", x.supports(0), 1);
         is("supports(8) of none", hopeless().supports(8), 0);
     }
 
@@ -537,6 +575,9 @@ public final class PromiseTest {
         for (int bad : NOT_A_LITERAL) {
             refused(x, "share(" + bad + ")", INDEX, () -> x.share(bad));
         }
+        x.dropDefault();
+        is("share(1) after a default is gone", x.share(1), 1.0);
+        is("share(9) after a default is gone", x.share(9), 0.0);
         is("share(8) of none", hopeless().share(8), 0.0);
         DefaultReasoner y = new DefaultReasoner();
         y.addRule(set(0, 1), 10);
@@ -698,6 +739,10 @@ public final class PromiseTest {
         is("digest() with a chain", x.digest(), digestOf(join(theory, 0, 0, 1, 1, 0, 1, 0, 0, 0, 0)));
         x.walk(2);
         is("digest() with a walk", x.digest(), digestOf(join(theory, 0, 0, 1, 1, 0, 1, 0, 0, 0, 1, 1)));
+        DefaultReasoner y = plain(3);
+        y.walk(5);
+        is("digest() with a longer walk", y.digest(), digestOf(0, 0, 3, 0, 0, 0, 0, 0, 1, 0, 0, 2,
+                0, 0, 0, 0, 0, 0, 0, 0, 0, 3, 2, 1, 0));
         x.dropRule();
         x.dropDefault();
         is("digest() after drops", x.digest(),
