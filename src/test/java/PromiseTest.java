@@ -6,96 +6,9 @@ import java.util.Set;
 import java.util.TreeSet;
 
 /** For each promise of the document: ordinary inputs, the edges it names, and wrong inputs. */
-public final class PromiseTest {
-    private static final int ALL = 65535;
-    private static final Class<?> INDEX = IndexOutOfBoundsException.class;
-    private static final Class<?> ARGUMENT = IllegalArgumentException.class;
-    private static final Class<?> STATE = IllegalStateException.class;
+public final class PromiseTest extends Checks {
     private static final int[] NOT_A_LITERAL = {-1, 16, 31, 32, Integer.MIN_VALUE, Integer.MAX_VALUE};
     private static final int[] NOT_A_SET = {-1, 65536, 131071, Integer.MIN_VALUE, Integer.MAX_VALUE};
-    private static int wrong = 0;
-    private static int checks = 0;
-    private static int promise = 0;
-
-    private interface Call {
-        void run();
-    }
-
-    private static void is(String what, Object got, Object want) {
-        checks++;
-        if (!got.equals(want)) {
-            wrong++;
-            System.out.println("promise " + promise + ": " + what + " answered " + got + ", due is " + want);
-        }
-    }
-
-    /** The call throws just that class of exception, and changes nothing that can be seen. */
-    private static void refused(DefaultReasoner x, String what, Class<?> want, Call call) {
-        String before = seen(x);
-        Class<?> got = Void.class;
-        try {
-            call.run();
-        } catch (RuntimeException e) {
-            got = e.getClass();
-        }
-        is(what + " throws", got.getSimpleName(), want.getSimpleName());
-        is("what is seen after " + what, seen(x), before);
-    }
-
-    private static String seen(DefaultReasoner x) {
-        StringBuilder text = new StringBuilder();
-        text.append(x.digest()).append(' ').append(x.facts()).append(' ').append(x.defaultCount());
-        for (int i = 0; i < x.extensionCount(); i++) {
-            text.append(' ').append(x.extension(i)).append(x.isPreferred(i));
-        }
-        for (int i = 0; i < x.appliedCount(); i++) {
-            text.append(" a").append(x.applied(i));
-        }
-        return text.toString();
-    }
-
-    /** The set of these literals. */
-    private static int set(int... literals) {
-        int sum = 0;
-        for (int literal : literals) {
-            sum |= 1 << literal;
-        }
-        return sum;
-    }
-
-    private static long digestOf(long... numbers) {
-        long d = 113;
-        for (long x : numbers) {
-            d = d * 31 + x;
-        }
-        return d;
-    }
-
-    /** So many defaults without prerequisite or justification, that conclude 0, 1, 2 and so on. */
-    private static DefaultReasoner plain(int defaults) {
-        DefaultReasoner x = new DefaultReasoner();
-        for (int i = 0; i < defaults; i++) {
-            x.addDefault(0, 0, i);
-        }
-        return x;
-    }
-
-    /** Birds (0) fly (1); penguins (2) are birds and by default do not fly; Tweety is a penguin. */
-    private static DefaultReasoner tweety() {
-        DefaultReasoner x = new DefaultReasoner();
-        x.setFact(2, true);
-        x.addRule(set(2), 0);
-        x.addDefault(set(0), set(1), 1);
-        x.addDefault(set(2), set(9), 9);
-        return x;
-    }
-
-    /** One default whose conclusion speaks against itself: there is no extension. */
-    private static DefaultReasoner hopeless() {
-        DefaultReasoner x = new DefaultReasoner();
-        x.addDefault(0, set(0), 8);
-        return x;
-    }
 
     private static void newObject() {
         DefaultReasoner x = new DefaultReasoner();
@@ -805,17 +718,14 @@ public final class PromiseTest {
             PromiseTest::preferredCount, PromiseTest::supports, PromiseTest::common,
             PromiseTest::share, PromiseTest::walk, PromiseTest::appliedCount,
             PromiseTest::applied, PromiseTest::respects, PromiseTest::digest};
-        for (Call test : promises) {
-            promise++;
-            test.run();
+        for (int i = 0; i < promises.length; i++) {
+            at("promise " + (i + 1));
+            promises[i].run();
         }
-        promise = 23;
+        at("promise 23");
         orders();
-        promise = 0;
+        at("the face");
         face();
-        System.out.println(checks + " checks, " + wrong + " wrong");
-        if (wrong != 0) {
-            System.exit(1);
-        }
+        end();
     }
 }
