@@ -540,8 +540,8 @@ public final class DescriptionEdgesTest extends Sentences {
         for (int bad : new int[] {-1, 16, Integer.MIN_VALUE, Integer.MAX_VALUE}) {
             refusal.of("setFact(" + bad + ", true)", INDEX, x -> x.setFact(bad, true));
             refusal.of("setFact(" + bad + ", false)", INDEX, x -> x.setFact(bad, false));
-            refusal.of("addRule(0, " + bad + ")", INDEX, x -> x.addRule(0, bad));
-            refusal.of("addDefault(0, 0, " + bad + ")", INDEX, x -> x.addDefault(0, 0, bad));
+            refusal.of("addRule(64, " + bad + ")", INDEX, x -> x.addRule(64, bad));
+            refusal.of("addDefault(64, 64, " + bad + ")", INDEX, x -> x.addDefault(64, 64, bad));
             refusal.of("supports(" + bad + ")", INDEX, x -> x.supports(bad));
             refusal.of("share(" + bad + ")", INDEX, x -> x.share(bad));
             refusal.of("prefer(0, " + bad + ")", INDEX, x -> x.prefer(0, bad));
@@ -554,9 +554,9 @@ public final class DescriptionEdgesTest extends Sentences {
             refusal.of("applied(" + bad + ")", INDEX, x -> x.applied(bad));
         }
         for (int bad : new int[] {-1, 65536, Integer.MIN_VALUE, Integer.MAX_VALUE}) {
-            refusal.of("addRule(" + bad + ", 0)", ARGUMENT, x -> x.addRule(bad, 0));
-            refusal.of("addDefault(" + bad + ", 0, 0)", ARGUMENT, x -> x.addDefault(bad, 0, 0));
-            refusal.of("addDefault(0, " + bad + ", 0)", ARGUMENT, x -> x.addDefault(0, bad, 0));
+            refusal.of("addRule(" + bad + ", 7)", ARGUMENT, x -> x.addRule(bad, 7));
+            refusal.of("addDefault(" + bad + ", 64, 7)", ARGUMENT, x -> x.addDefault(bad, 64, 7));
+            refusal.of("addDefault(64, " + bad + ", 7)", ARGUMENT, x -> x.addDefault(64, bad, 7));
             refusal.of("closure(" + bad + ")", ARGUMENT, x -> x.closure(bad));
             refusal.of("generatorsOf(" + bad + ")", ARGUMENT, x -> x.generatorsOf(bad));
             refusal.of("isExtension(" + bad + ")", ARGUMENT, x -> x.isExtension(bad));
@@ -574,8 +574,8 @@ public final class DescriptionEdgesTest extends Sentences {
         refusedAsNew(empty, "dropRule()", STATE, DefaultReasoner::dropRule);
         refusedAsNew(empty, "dropDefault()", STATE, DefaultReasoner::dropDefault);
         refusedAsNew(empty, "walk(1)", ARGUMENT, x -> x.walk(1));
-        refusedAsNew(Checks::full, "addRule(0, 0)", STATE, x -> x.addRule(0, 0));
-        refusedAsNew(Checks::full, "addDefault(0, 0, 0)", STATE, x -> x.addDefault(0, 0, 0));
+        refusedAsNew(Checks::full, "addRule(64, 7)", STATE, x -> x.addRule(64, 7));
+        refusedAsNew(Checks::full, "addDefault(64, 64, 7)", STATE, x -> x.addDefault(64, 64, 7));
         refusedAsNew(Checks::full, "prefer(6, 0)", INDEX, x -> x.prefer(6, 0));
         refusedAsNew(Checks::full, "walk(720)", ARGUMENT, x -> x.walk(720));
         refusedAsNew(Checks::full, "respects(720)", ARGUMENT, x -> x.respects(720));

@@ -97,6 +97,21 @@ public final class PromiseEdgesTest extends Sentences {
         is("walk(0)", x.walk(0), 0);
     }
 
+    /** Whatever is asked first, the object has found nothing out that it could wrongly go by. */
+    private static void askedFirst() {
+        is("isPreferred(0)", new DefaultReasoner().isPreferred(0), true);
+        is("preferredCount()", new DefaultReasoner().preferredCount(), 1);
+        is("extensionCount()", new DefaultReasoner().extensionCount(), 1);
+        is("extension(0)", new DefaultReasoner().extension(0), 0);
+        is("isExtension(0)", new DefaultReasoner().isExtension(0), true);
+        is("generatorsOf(0)", new DefaultReasoner().generatorsOf(0), 0);
+        is("supports(0)", new DefaultReasoner().supports(0), 0);
+        is("common(true)", new DefaultReasoner().common(true), 0);
+        is("share(0)", new DefaultReasoner().share(0), 0.0);
+        is("walk(0)", new DefaultReasoner().walk(0), 0);
+        is("respects(0)", new DefaultReasoner().respects(0), true);
+    }
+
     private static void emptyBesideAnother() {
         full();
         is("digest() of an object made later", new DefaultReasoner().digest(), digestOf(0, 0, 0, 0));
@@ -159,7 +174,11 @@ public final class PromiseEdgesTest extends Sentences {
 
     private static void addsRule() {
         DefaultReasoner x = new DefaultReasoner();
+        x.setFact(0, true);
+        is("extension(0)", x.extension(0), set(0));
         x.addRule(set(0), 15);
+        is("extension(0) after a rule", x.extension(0), set(0, 15));
+        x.setFact(0, false);
         is("closure(1)", x.closure(1), set(0, 15));
         x.addRule(set(15), 7);
         is("closure(1) of a rule and its complement's", x.closure(1), ALL);
@@ -216,8 +235,9 @@ public final class PromiseEdgesTest extends Sentences {
         is("extension(0) with what closes it", x.extension(0), set(8, 15));
         DefaultReasoner y = new DefaultReasoner();
         y.addDefault(0, 0, 15);
+        is("extension(0)", y.extension(0), set(15));
         y.addDefault(set(15), set(15), 0);
-        is("extension(0)", y.extension(0), set(0, 15));
+        is("extension(0) after another one", y.extension(0), set(0, 15));
         y.addDefault(0, 0, 15);
         is("defaultCount() with a default twice", y.defaultCount(), 3);
         is("isBefore of the new one", y.isBefore(2, 0) || y.isBefore(0, 2), false);
@@ -273,6 +293,13 @@ public final class PromiseEdgesTest extends Sentences {
             }
         }
         is("digest()", x.digest(), digestOf(0, 0, 0, 0));
+        DefaultReasoner y = new DefaultReasoner();
+        y.addRule(0, 1);
+        y.addRule(set(1), 2);
+        is("extension(0)", y.extension(0), set(1, 2));
+        y.dropRule();
+        is("extension(0) without the last", y.extension(0), set(1));
+        is("walk(0) without the last", y.walk(0), set(1));
     }
 
     private static void rulesLeft() {
@@ -389,6 +416,11 @@ public final class PromiseEdgesTest extends Sentences {
                 }
             }
         }
+        DefaultReasoner y = tweety();
+        is("preferredCount() before", y.preferredCount(), 2);
+        y.prefer(1, 0);
+        is("preferredCount() after", y.preferredCount(), 1);
+        is("common(true) after", y.common(true), set(0, 2, 9));
     }
 
     private static void cameBeforeAlready() {
@@ -1027,6 +1059,7 @@ public final class PromiseEdgesTest extends Sentences {
     private static void promises1To6() {
         promise(1);
         sentence("Creates a reasoner with an empty theory.", PromiseEdgesTest::emptyTheory);
+        sentence("with an empty theory.", PromiseEdgesTest::askedFirst);
         sentence("Creates a reasoner", PromiseEdgesTest::emptyBesideAnother);
         promise(2);
         sentence("Makes a literal a fact", PromiseEdgesTest::makesFact);
