@@ -7,53 +7,80 @@ import java.util.concurrent.ExecutorService;
 import java.util.concurrent.Executors;
 import java.util.concurrent.Future;
 import java.util.concurrent.TimeUnit;
+import java.util.stream.Stream;
 import javax.tools.ToolProvider;
 
 /**
- * Breaks the class, one place at a time, and looks whether the test of the sentence that is broken
+ * Breaks the class or README.md, one place at a time, and looks whether the test of what is broken
  * then fails. Run by hand, from the project's root: java src/test/mutants/Mutants.java
  *
- * mutants.txt has three lines for each: the sentence's beginning as the tests print it, what stands
- * in the source (just once; \\n is a new line), and what is put there.
+ * mutants.txt has three lines for each: the beginning of what the test prints (a sentence of the
+ * document, a rule of LANGUAGE.md, or readme), what stands in the file (just once; \\n is a new
+ * line), and what is put there. Words behind the command leave only mutants that begin with them.
  */
 public final class Mutants {
-    private static final Path SOURCE = Path.of("src/main/java/DefaultReasoner.java");
-    private static final String[] TESTS = {"DescriptionEdgesTest", "PromiseEdgesTest"};
+    private static final Path CLASS = Path.of("src/main/java/DefaultReasoner.java");
+    private static final Path README = Path.of("README.md");
+
+    private static String testOf(String named) {
+        return named.startsWith("description") ? "DescriptionEdgesTest" : named.startsWith("promise") ? "PromiseEdgesTest"
+                : named.startsWith("rule") ? "LanguageTest" : "ReadmeTest";
+    }
 
     private static String tryOne(String[] mutant, Path dir) throws Exception {
-        String source = Files.readString(SOURCE);
-        int at = source.indexOf(mutant[1]);
-        if (at < 0 || source.indexOf(mutant[1], at + 1) >= 0) {
-            return "stands not just once in the source: " + mutant[1];
+        Path original = mutant[0].startsWith("readme") ? README : CLASS;
+        String text = Files.readString(original);
+        int at = text.indexOf(mutant[1]);
+        if (at < 0 || text.indexOf(mutant[1], at + 1) >= 0) {
+            return "stands not just once in the file: " + mutant[1];
         }
-        Path file = dir.resolve("DefaultReasoner.java");
-        Files.writeString(file, source.replace(mutant[1], mutant[2]));
-        String test = TESTS[mutant[0].startsWith("description") ? 0 : 1];
-        int code = ToolProvider.getSystemJavaCompiler().run(null, null, null, "-sourcepath", "src/test/support",
-                "-d", dir.toString(), file.toString(), "src/test/java/" + test + ".java");
+        Path broken = dir.resolve(original.getFileName());
+        Files.writeString(broken, text.replace(mutant[1], mutant[2]));
+        String test = testOf(mutant[0]);
+        // These two read the broken file; the others use the class that is made from it.
+        boolean reads = test.equals("LanguageTest") || test.equals("ReadmeTest");
+        int code = ToolProvider.getSystemJavaCompiler().run(null, null, null, "-encoding", "UTF-8",
+                "-sourcepath", "src/test/support", "-d", dir.toString(), (reads ? CLASS : broken).toString(),
+                "src/test/java/" + test + ".java");
         if (code != 0) {
             return "does not compile: " + mutant[2];
         }
-        return printed(test, dir).lines().anyMatch(l -> l.startsWith(mutant[0])) ? ""
+        String printed = printed(dir, reads ? List.of(test, broken.toString()) : List.of(test));
+        return printed.lines().anyMatch(l -> l.startsWith(mutant[0])) ? ""
                 : "no test failed for " + mutant[0] + "\n    " + mutant[1] + "\n    " + mutant[2];
     }
 
-    private static String printed(String test, Path dir) throws Exception {
+    private static String printed(Path dir, List<String> testAndFile) throws Exception {
         Path out = dir.resolve("out.txt");
-        Process run = new ProcessBuilder("java", "-cp", dir.toString(), test)
-                .redirectErrorStream(true).redirectOutput(out.toFile()).start();
+        List<String> command = new ArrayList<>(List.of("java", "-cp", dir.toString()));
+        command.addAll(testAndFile);
+        Process run = new ProcessBuilder(command).redirectErrorStream(true).redirectOutput(out.toFile()).start();
         if (!run.waitFor(60, TimeUnit.SECONDS)) {
             run.destroyForcibly();
         }
         return Files.readString(out);
     }
 
-    private static List<String[]> mutants() throws IOException {
+    private static String tryAndCleanUp(String[] mutant) throws Exception {
+        Path dir = Files.createTempDirectory("mutant");
+        String answer = tryOne(mutant, dir);
+        try (Stream<Path> files = Files.list(dir)) {
+            for (Path file : files.toList()) {
+                Files.delete(file);
+            }
+        }
+        Files.delete(dir);
+        return answer;
+    }
+
+    private static List<String[]> mutants(String start) throws IOException {
         List<String> lines = new ArrayList<>(Files.readAllLines(Path.of("src/test/mutants/mutants.txt")));
         lines.removeIf(String::isBlank);
         List<String[]> all = new ArrayList<>();
         for (int i = 0; i + 2 < lines.size(); i += 3) {
-            all.add(new String[] {lines.get(i).strip(), unfolded(lines.get(i + 1)), unfolded(lines.get(i + 2))});
+            if (lines.get(i).startsWith(start)) {
+                all.add(new String[] {lines.get(i).strip(), unfolded(lines.get(i + 1)), unfolded(lines.get(i + 2))});
+            }
         }
         return all;
     }
@@ -65,8 +92,8 @@ public final class Mutants {
     public static void main(String[] args) throws Exception {
         ExecutorService pool = Executors.newFixedThreadPool(Runtime.getRuntime().availableProcessors());
         List<Future<String>> answers = new ArrayList<>();
-        for (String[] mutant : mutants()) {
-            answers.add(pool.submit(() -> tryOne(mutant, Files.createTempDirectory("mutant"))));
+        for (String[] mutant : mutants(String.join(" ", args))) {
+            answers.add(pool.submit(() -> tryAndCleanUp(mutant)));
         }
         int alive = 0;
         for (Future<String> answer : answers) {
@@ -76,7 +103,7 @@ public final class Mutants {
             }
         }
         pool.shutdown();
-        System.out.println(answers.size() + " mutants, " + alive + " not seen by their sentence's test");
+        System.out.println(answers.size() + " mutants, " + alive + " not seen by their test");
         System.exit(alive == 0 ? 0 : 1);
     }
 }
